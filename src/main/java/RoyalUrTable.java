@@ -18,9 +18,9 @@ public final class RoyalUrTable {
     private final Endings endings;
     /** For ranked(): one row that is used again, as each object made counts. */
     private final int[] worthsBehind;
-    private int pieces;
+    private int piecesOfEach;
     private int turn;
-    private int marks;
+    private int marksTold;
     private int winner;
     private int throwsTold;
 
@@ -41,7 +41,7 @@ public final class RoyalUrTable {
 
     public int tell(int marks) throws IllegalArgumentException, IllegalStateException {
         refuseOutside(marks, 0, Dice.MOST_MARKS);
-        if (winner != NONE || this.marks != NONE) {
+        if (winner != NONE || marksTold != NONE) {
             throw new IllegalStateException();
         }
         throwsTold++;
@@ -49,7 +49,7 @@ public final class RoyalUrTable {
         if (possible == 0) {
             turn = 1 - turn;
         } else {
-            this.marks = marks;
+            marksTold = marks;
         }
         return possible;
     }
@@ -59,7 +59,7 @@ public final class RoyalUrTable {
         if (!canMoveFrom(place)) {
             throw new IllegalStateException();
         }
-        int to = place + marks;
+        int to = place + marksTold;
         Side mover = sideOf(turn);
         Side opponent = sideOf(1 - turn);
         mover.layout = Layout.shifted(mover.layout, place, to);
@@ -73,7 +73,7 @@ public final class RoyalUrTable {
         if (!Way.isRosette(to)) {
             turn = 1 - turn;
         }
-        marks = NONE;
+        marksTold = NONE;
         return to;
     }
 
@@ -82,7 +82,7 @@ public final class RoyalUrTable {
     }
 
     public int marks() {
-        return marks;
+        return marksTold;
     }
 
     public int winner() {
@@ -112,7 +112,7 @@ public final class RoyalUrTable {
     // ---- moves that are possible
 
     public int moves() {
-        return countMoves(marks);
+        return countMoves(marksTold);
     }
 
     public int moveAt(int index) {
@@ -130,7 +130,7 @@ public final class RoyalUrTable {
 
     public boolean captures(int place) throws IllegalArgumentException {
         refuseOutside(place, 0, Way.LAST);
-        return canMoveFrom(place) && Layout.canBeTaken(sideOf(1 - turn).layout, place + marks);
+        return canMoveFrom(place) && Layout.canBeTaken(sideOf(1 - turn).layout, place + marksTold);
     }
 
     // ---- worths
@@ -148,9 +148,11 @@ public final class RoyalUrTable {
 
     public int ranked(int depth, int rank) throws IllegalArgumentException {
         refuseOutside(depth, 0, MOST_DEPTH);
-        refuseOutside(rank, 0, Integer.MAX_VALUE);
+        if (rank < 0) {
+            throw new IllegalArgumentException();
+        }
         // Looking ahead is dear, and in vain where there are not so many moves.
-        if (rank >= countMoves(marks)) {
+        if (rank >= countMoves(marksTold)) {
             return NONE;
         }
         noteWorthsBehind(depth);
@@ -193,13 +195,13 @@ public final class RoyalUrTable {
     }
 
     private void setUp(int pieces) {
-        this.pieces = pieces;
+        piecesOfEach = pieces;
         side0.layout = Layout.allAtStart(pieces);
         side1.layout = Layout.allAtStart(pieces);
         side0.lost = 0;
         side1.lost = 0;
         turn = 0;
-        marks = NONE;
+        marksTold = NONE;
         winner = NONE;
         throwsTold = 0;
     }
@@ -210,7 +212,7 @@ public final class RoyalUrTable {
 
     /** False too if no move is to be made: no piece can move with the marks NONE. */
     private boolean canMoveFrom(int place) {
-        return Layout.canMove(sideOf(turn).layout, sideOf(1 - turn).layout, place, marks);
+        return Layout.canMove(sideOf(turn).layout, sideOf(1 - turn).layout, place, marksTold);
     }
 
     private int countMoves(int marks) {
@@ -237,10 +239,10 @@ public final class RoyalUrTable {
         endings.fillUpTo(ROUNDS_AT_DEPTH_0);
         long own = sideOf(turn).layout;
         long other = sideOf(1 - turn).layout;
-        if (marks == NONE) {
+        if (marksTold == NONE) {
             return worthToThrow(own, other, leadOfTurn(), depth);
         }
-        return worthBehindThrow(own, other, leadOfTurn(), marks, depth);
+        return worthBehindThrow(own, other, leadOfTurn(), marksTold, depth);
     }
 
     private void noteWorthsBehind(int depth) {
@@ -249,8 +251,8 @@ public final class RoyalUrTable {
         long other = sideOf(1 - turn).layout;
         int lead = leadOfTurn();
         for (int from = 0; from < worthsBehind.length; from++) {
-            worthsBehind[from] = Layout.canMove(own, other, from, marks)
-                    ? worthBehindMove(own, other, lead, from, marks, depth)
+            worthsBehind[from] = Layout.canMove(own, other, from, marksTold)
+                    ? worthBehindMove(own, other, lead, from, marksTold, depth)
                     : NONE;
         }
     }
@@ -311,7 +313,7 @@ public final class RoyalUrTable {
     }
 
     private int worthAtOnce(long own, long other, int lead) {
-        int homeInEnding = pieces - 1;
+        int homeInEnding = piecesOfEach - 1;
         if (Layout.countAt(own, Way.HOME) == homeInEnding && Layout.countAt(other, Way.HOME) == homeInEnding) {
             return endings.held(Layout.firstPlace(own), Layout.firstPlace(other), ROUNDS_AT_DEPTH_0);
         }
@@ -364,11 +366,11 @@ public final class RoyalUrTable {
         }
 
         static int countAt(long layout, int place) {
-            return place < 0 || place > Way.HOME ? 0 : (int) (layout >>> BITS * place) & 15;
+            return place < 0 || place > Way.HOME ? 0 : (int) (layout >>> (BITS * place)) & 15;
         }
 
         static long shifted(long layout, int from, int to) {
-            return layout - (1L << BITS * from) + (1L << BITS * to);
+            return layout - (1L << (BITS * from)) + (1L << (BITS * to));
         }
 
         static boolean isAllHome(long layout) {
@@ -438,7 +440,7 @@ public final class RoyalUrTable {
             return index < 0 || index >= worths.length ? HALF : worths[index];
         }
 
-        /** Without the table: it is to tell from 0 rounds on, and holds none for them. */
+        /** Plays on until no rounds are left: for those nothing is looked up. */
         int playedOut(int own, int other, int rounds) {
             return worthToThrow(own, other, rounds, 0);
         }

@@ -113,9 +113,9 @@ public final class PromisesTest {
     private void promise2Begin() {
         for (int pieces = 1; pieces <= 4; pieces++) {
             checks.same("begin " + pieces, state(played(pieces)), stateAtBegin(pieces));
-            RoyalUrTable captured = played(1, 4, 0, 1, 4, 4, 0, 1, 4);
+            RoyalUrTable captured = played(1, 4, 0, 1, 4, 4, 0, 1, 4, 4, 0, 1, 4);
             captured.begin(pieces);
-            checks.same("begin behind a capture", state(captured), stateAtBegin(pieces));
+            checks.same("begin behind a capture on each side", state(captured), stateAtBegin(pieces));
             RoyalUrTable told = played(2, 3, NONE);
             told.begin(pieces);
             checks.same("begin while a move is to be made", state(told), stateAtBegin(pieces));
@@ -314,6 +314,7 @@ public final class PromisesTest {
     private void promise12Moves() {
         checks.same("before a throw", new RoyalUrTable().moves(), 0);
         checks.same("pieces at place 0", played(4, 2, NONE).moves(), 1);
+        checks.same("with 4 marks", played(2, 4, NONE).moves(), 1);
         checks.same("two", played(2, 2, 0, 0, NONE, 1, NONE).moves(), 2);
         checks.same("one of two", played(2, 2, 0, 0, NONE, 2, NONE).moves(), 1);
         checks.same("behind the move", played(2, 2, 0, 0, NONE, 2, 2).moves(), 0);
@@ -339,6 +340,8 @@ public final class PromisesTest {
         checks.same("to place 5 with a piece of the other side", table.captures(4), true);
         checks.same("to place 1", table.captures(0), false);
         checks.same("no piece at this place", table.captures(3), false);
+        checks.same("no piece at this place, though one of the other side where it would go",
+                played(2, 4, 0, 1, 4, 3, NONE).captures(2), false);
         checks.same("before a throw", played(1, 4, 0, 1, 4, 4, 0).captures(4), false);
         checks.same("a place of a side's own", played(1, 3, 0, 3, NONE).captures(0), false);
         checks.same("place 8 is safe", played(2, 4, 0, 4, 4, 0, NONE, 4, 0, 3, 0, 0, NONE, 1, NONE).captures(3), false);
