@@ -314,7 +314,8 @@ public final class PromisesTest {
     private void promise12Moves() {
         checks.same("before a throw", new RoyalUrTable().moves(), 0);
         checks.same("pieces at place 0", played(4, 2, NONE).moves(), 1);
-        checks.same("with 4 marks", played(2, 4, NONE).moves(), 1);
+        checks.same("the piece at place 12 would go beyond home",
+                played(2, 4, 0, 4, 4, 4, 8, 0, NONE, 4, NONE).moves(), 1);
         checks.same("two", played(2, 2, 0, 0, NONE, 1, NONE).moves(), 2);
         checks.same("one of two", played(2, 2, 0, 0, NONE, 2, NONE).moves(), 1);
         checks.same("behind the move", played(2, 2, 0, 0, NONE, 2, 2).moves(), 0);
