@@ -83,7 +83,10 @@ public final class AgainstPlainGameTest {
     }
 
     private boolean anyCall() {
-        return random.nextInt(3) == 0 ? anyCallOfTheGame() : random.nextInt(2) == 0 ? anyCallOfMoves() : anyCallOfWorths();
+        if (random.nextInt(3) == 0) {
+            return anyCallOfTheGame();
+        }
+        return random.nextInt(2) == 0 ? anyCallOfMoves() : anyCallOfWorths();
     }
 
     private boolean anyCallOfTheGame() {

@@ -67,32 +67,6 @@ public final class PromisesTest {
         return played(1, 0, NONE, 4, 0, 4, 4, 4, 8, 0, NONE, 3, 12);
     }
 
-    /** All that the asking calls without worths tell. */
-    private static String state(RoyalUrTable table) {
-        StringBuilder text = new StringBuilder();
-        for (int side = 0; side < 2; side++) {
-            for (int place = 0; place <= 15; place++) {
-                text.append(table.at(side, place));
-            }
-            text.append(" progress ").append(table.progress(side));
-            text.append(" captured ").append(table.captured(side)).append(' ');
-        }
-        text.append("turn ").append(table.turn()).append(" marks ").append(table.marks());
-        text.append(" winner ").append(table.winner()).append(" throws ").append(table.throwsTold());
-        text.append(" moves");
-        for (int index = 0; index < table.moves(); index++) {
-            text.append(' ').append(table.moveAt(index));
-        }
-        return text.toString();
-    }
-
-    private void refusedWithoutChange(RoyalUrTable table, String what, Class<? extends RuntimeException> want,
-            Checks.Call call) {
-        String before = state(table);
-        checks.refused(what, want, call);
-        checks.same(what + " changes nothing", state(table), before);
-    }
-
     private static Object begun(RoyalUrTable table, int pieces) {
         table.begin(pieces);
         return "";
@@ -104,29 +78,29 @@ public final class PromisesTest {
     }
 
     private void promise1ANewObject() {
-        checks.same("a new object", state(new RoyalUrTable()), stateAtBegin(2));
+        checks.same("a new object", LedGame.state(new RoyalUrTable()), stateAtBegin(2));
         RoyalUrTable one = new RoyalUrTable();
         one.tell(4);
-        checks.same("a new object beside a used one", state(new RoyalUrTable()), stateAtBegin(2));
+        checks.same("a new object beside a used one", LedGame.state(new RoyalUrTable()), stateAtBegin(2));
     }
 
     private void promise2Begin() {
         for (int pieces = 1; pieces <= 4; pieces++) {
-            checks.same("begin " + pieces, state(played(pieces)), stateAtBegin(pieces));
+            checks.same("begin " + pieces, LedGame.state(played(pieces)), stateAtBegin(pieces));
             RoyalUrTable captured = played(1, 4, 0, 1, 4, 4, 0, 1, 4, 4, 0, 1, 4);
             captured.begin(pieces);
-            checks.same("begin behind a capture on each side", state(captured), stateAtBegin(pieces));
+            checks.same("begin behind a capture on each side", LedGame.state(captured), stateAtBegin(pieces));
             RoyalUrTable told = played(2, 3, NONE);
             told.begin(pieces);
-            checks.same("begin while a move is to be made", state(told), stateAtBegin(pieces));
+            checks.same("begin while a move is to be made", LedGame.state(told), stateAtBegin(pieces));
             RoyalUrTable over = wonBySide0();
             over.begin(pieces);
-            checks.same("begin behind the end", state(over), stateAtBegin(pieces));
+            checks.same("begin behind the end", LedGame.state(over), stateAtBegin(pieces));
             checks.same("a throw in the game that begins", over.tell(4), 1);
         }
         for (int pieces : new int[] {0, 5, -1, Integer.MIN_VALUE, Integer.MAX_VALUE}) {
             RoyalUrTable table = played(3, 3, 0, 2, NONE);
-            refusedWithoutChange(table, "begin " + pieces, ARGUMENT, () -> begun(table, pieces));
+            checks.refusedWithoutChange(table, "begin " + pieces, ARGUMENT, () -> begun(table, pieces));
         }
     }
 
@@ -136,19 +110,19 @@ public final class PromisesTest {
         checks.same("behind 0 marks the other side throws", table.turn(), 1);
         checks.same("pieces at place 0 count as one", table.tell(2), 1);
         checks.same("a move is to be made by the side that threw", table.turn(), 1);
-        refusedWithoutChange(table, "tell while a move is to be made", STATE, () -> table.tell(2));
+        checks.refusedWithoutChange(table, "tell while a move is to be made", STATE, () -> table.tell(2));
         for (int marks : new int[] {-1, 5, Integer.MIN_VALUE, Integer.MAX_VALUE}) {
-            refusedWithoutChange(table, "tell " + marks + " before the state is looked at", ARGUMENT,
+            checks.refusedWithoutChange(table, "tell " + marks + " before the state is looked at", ARGUMENT,
                     () -> table.tell(marks));
             RoyalUrTable fresh = new RoyalUrTable();
-            refusedWithoutChange(fresh, "tell " + marks, ARGUMENT, () -> fresh.tell(marks));
+            checks.refusedWithoutChange(fresh, "tell " + marks, ARGUMENT, () -> fresh.tell(marks));
         }
         checks.same("a piece of one's own is in the way", played(2, 2, 0, 0, NONE).tell(2), 1);
         checks.same("two pieces can move", played(2, 2, 0, 0, NONE).tell(1), 2);
         checks.same("four pieces can move", played(4, 4, 0, 3, 0, 0, NONE, 2, 0, 0, NONE, 1, 0, 0, NONE).tell(4), 4);
         RoyalUrTable over = wonBySide0();
-        refusedWithoutChange(over, "tell when the game is over", STATE, () -> over.tell(1));
-        refusedWithoutChange(over, "tell 5 when the game is over", ARGUMENT, () -> over.tell(5));
+        checks.refusedWithoutChange(over, "tell when the game is over", STATE, () -> over.tell(1));
+        checks.refusedWithoutChange(over, "tell 5 when the game is over", ARGUMENT, () -> over.tell(5));
         noMovePossible();
     }
 
@@ -167,24 +141,24 @@ public final class PromisesTest {
 
     private void promise4Move() {
         RoyalUrTable table = new RoyalUrTable();
-        refusedWithoutChange(table, "move before a throw", STATE, () -> table.move(0));
+        checks.refusedWithoutChange(table, "move before a throw", STATE, () -> table.move(0));
         table.tell(3);
-        refusedWithoutChange(table, "move from a place without a piece", STATE, () -> table.move(1));
+        checks.refusedWithoutChange(table, "move from a place without a piece", STATE, () -> table.move(1));
         for (int place : new int[] {-1, 15, 16, Integer.MIN_VALUE, Integer.MAX_VALUE}) {
-            refusedWithoutChange(table, "move " + place, ARGUMENT, () -> table.move(place));
+            checks.refusedWithoutChange(table, "move " + place, ARGUMENT, () -> table.move(place));
             RoyalUrTable fresh = new RoyalUrTable();
-            refusedWithoutChange(fresh, "move " + place + " before a throw", ARGUMENT, () -> fresh.move(place));
+            checks.refusedWithoutChange(fresh, "move " + place + " before a throw", ARGUMENT, () -> fresh.move(place));
         }
         checks.same("move from 0 with 3", table.move(0), 3);
-        checks.same("state behind it", state(table),
+        checks.same("state behind it", LedGame.state(table),
                 "1001000000000000 progress 3 captured 0 2000000000000000 progress 0 captured 0 "
                         + "turn 1 marks -1 winner -1 throws 1 moves");
-        refusedWithoutChange(table, "move again", STATE, () -> table.move(0));
+        checks.refusedWithoutChange(table, "move again", STATE, () -> table.move(0));
         RoyalUrTable blocked = played(2, 2, 0, 0, NONE, 2, NONE);
-        refusedWithoutChange(blocked, "move onto a piece of one's own", STATE, () -> blocked.move(0));
+        checks.refusedWithoutChange(blocked, "move onto a piece of one's own", STATE, () -> blocked.move(0));
         checks.same("move of the other one", blocked.move(2), 4);
         RoyalUrTable own = played(2, 3, 0, 2, NONE);
-        refusedWithoutChange(own, "move of a piece of the other side", STATE, () -> own.move(3));
+        checks.refusedWithoutChange(own, "move of a piece of the other side", STATE, () -> own.move(3));
         for (int[] game : new int[][] {{4, 0}, {4, 0, 4, 4}, {4, 0, 4, 4, 4, 8, 0, NONE, 2, 12}}) {
             checks.same("behind a rosette the same side throws", played(1, game).turn(), 0);
         }
@@ -192,7 +166,7 @@ public final class PromisesTest {
 
     private void promise4Captures() {
         RoyalUrTable taken = played(1, 4, 0, 1, 4, 4, 0, 1, 4);
-        checks.same("a capture at place 5", state(taken),
+        checks.same("a capture at place 5", LedGame.state(taken),
                 "1000000000000000 progress 0 captured 1 0000010000000000 progress 5 captured 0 "
                         + "turn 0 marks -1 winner -1 throws 4 moves");
         RoyalUrTable at12 = played(1, 4, 0, 4, 4, 4, 8, 4, 0, 4, 4);
@@ -216,11 +190,11 @@ public final class PromisesTest {
         RoyalUrTable table = nearHome();
         table.tell(3);
         checks.same("move home", table.move(12), 15);
-        checks.same("state behind it", state(table),
+        checks.same("state behind it", LedGame.state(table),
                 "0000000000000001 progress 15 captured 0 1000000000000000 progress 0 captured 0 "
                         + "turn 1 marks -1 winner 0 throws 5 moves");
-        refusedWithoutChange(table, "move when the game is over", STATE, () -> table.move(0));
-        refusedWithoutChange(table, "move 15 when the game is over", ARGUMENT, () -> table.move(15));
+        checks.refusedWithoutChange(table, "move when the game is over", STATE, () -> table.move(0));
+        checks.refusedWithoutChange(table, "move 15 when the game is over", ARGUMENT, () -> table.move(15));
         RoyalUrTable two = played(2, 4, 0, 4, 4, 4, 8, 0, NONE, 3, 12);
         checks.same("one of two pieces home is no end", two.winner(), NONE);
         checks.same("behind a move home the other side throws", two.turn(), 1);
@@ -388,7 +362,7 @@ public final class PromisesTest {
         checks.same("depth 2 is 42 rounds", table.worth(2), WHOLE - table.ending(0, 12, 42));
         checks.same("at first", played(1).worth(3), table.ending(0, 0, 43));
         RoyalUrTable two = played(2, 4, 0, 4, 4, 4, 8, 4, 0, 3, 4, 3, 12, 4, 7, 0, NONE, 4, 11);
-        checks.same("one of two pieces home on both sides", state(two).substring(0, 16) + two.at(1, 15),
+        checks.same("one of two pieces home on both sides", LedGame.state(two).substring(0, 16) + two.at(1, 15),
                 "1000000000000001" + 1);
         checks.same("its worth is that of the ending", two.worth(0), two.ending(0, 0, 40));
         RoyalUrTable one = played(2, 4, 0, 4, 4, 4, 8, 0, NONE, 3, 12);
@@ -487,7 +461,7 @@ public final class PromisesTest {
 
     private void worthsDoNotChangeTheGame() {
         RoyalUrTable table = played(3, 4, 0, 1, 4, 4, 0, 1, NONE);
-        String before = state(table);
+        String before = LedGame.state(table);
         for (int depth = 0; depth <= 3; depth++) {
             table.worth(depth);
             table.chance(depth);
@@ -496,7 +470,7 @@ public final class PromisesTest {
         table.captures(4);
         table.ending(1, 2, 60);
         table.endingByThrows(1, 2, 5);
-        checks.same("calls that ask change nothing", state(table), before);
+        checks.same("calls that ask change nothing", LedGame.state(table), before);
         checks.same("nor what they answer again", table.worth(0), played(3, 4, 0, 1, 4, 4, 0, 1, NONE).worth(0));
     }
 }
